@@ -1,0 +1,140 @@
+import java.util.Arrays;
+import java.util.HexFormat;
+
+/** Counts and prints the calls whose answer is not the one that is due. */
+final class Check {
+    interface Call {
+        long answer();
+    }
+
+    interface Act {
+        void run();
+    }
+
+    private static int wrong = 0;
+
+    private Check() {
+    }
+
+    static void same(String what, Object want, Object got) {
+        if (!want.equals(got)) {
+            wrong++;
+            System.out.println(what + " answered " + got + ", due is " + want);
+        }
+    }
+
+    /** The call's answer as a text, or "throws." and the exception's name, as the issues write it. */
+    static String answerOf(Call call) {
+        try {
+            return Long.toString(call.answer());
+        } catch (RuntimeException e) {
+            return "throws." + e.getClass().getSimpleName();
+        }
+    }
+
+    static void due(String what, long want, Call call) {
+        same(what, Long.toString(want), answerOf(call));
+    }
+
+    static void out(String what, SealBox box, byte[] want) {
+        same("the OUT of " + what, hex(want), hex(readOut(box)));
+    }
+
+    static void out(String what, SealBox box, String want) {
+        same("the OUT of " + what, want, hex(readOut(box)));
+    }
+
+    static void badArgument(String what, SealBox box, Act act) {
+        refused(what, box, "IllegalArgumentException", act);
+    }
+
+    static void badState(String what, SealBox box, Act act) {
+        refused(what, box, "IllegalStateException", act);
+    }
+
+    static void noElement(String what, SealBox box, Act act) {
+        refused(what, box, "NoSuchElementException", act);
+    }
+
+    /** The call throws just that exception, and nothing that can be looked at changes. */
+    private static void refused(String what, SealBox box, String exception, Act act) {
+        String before = stateOf(box);
+        String answer = answerOf(() -> {
+            act.run();
+            return 0;
+        });
+        same(what, "throws." + exception, answer);
+        same("the state behind " + what, before, stateOf(box));
+    }
+
+    static String stateOf(SealBox box) {
+        int[] looks = new int[14];
+        for (int i = 0; i < looks.length; i++) {
+            looks[i] = box.look(i);
+        }
+        return Arrays.toString(looks) + " " + hex(readOut(box));
+    }
+
+    static byte[] readOut(SealBox box) {
+        byte[] bytes = new byte[box.look(1)];
+        for (int k = 0; k < bytes.length; k += 8) {
+            long number = box.outs(k);
+            for (int i = k; i < bytes.length && i < k + 8; i++) {
+                bytes[i] = (byte) (number >>> 8 * (i - k));
+            }
+        }
+        return bytes;
+    }
+
+    static void feed(SealBox box, byte[] bytes) {
+        for (int k = 0; k < bytes.length; k += 8) {
+            int n = Math.min(8, bytes.length - k);
+            long number = 0;
+            for (int i = 0; i < n; i++) {
+                number |= (bytes[k + i] & 255L) << 8 * i;
+            }
+            box.feed(n, number);
+        }
+    }
+
+    static void keep(SealBox box, int slot, byte[] bytes) {
+        box.wipe();
+        feed(box, bytes);
+        box.keep(slot, false);
+    }
+
+    /** n bytes that differ by place and by seed, high bits among them. */
+    static byte[] sample(int n, int seed) {
+        byte[] bytes = new byte[n];
+        for (int i = 0; i < n; i++) {
+            bytes[i] = (byte) (seed * 59 + i * 37 + (i >> 3) * 11 + 131);
+        }
+        return bytes;
+    }
+
+    static byte[] repeat(int b, int n) {
+        byte[] bytes = new byte[n];
+        Arrays.fill(bytes, (byte) b);
+        return bytes;
+    }
+
+    static byte[] bytes(String hex) {
+        return HexFormat.of().parseHex(hex);
+    }
+
+    static byte[] text(String text) {
+        return text.getBytes(java.nio.charset.StandardCharsets.ISO_8859_1);
+    }
+
+    static String hex(byte[] bytes) {
+        return HexFormat.of().formatHex(bytes);
+    }
+
+    /** To be called last in every main: ends with exit code 1 if an answer was wrong. */
+    static void end() {
+        System.out.println(wrong == 0 ? "all answers are as due" : wrong + " answers are not as due");
+        if (wrong != 0) {
+            System.exit(1);
+        }
+    }
+}
