@@ -217,7 +217,7 @@ public final class SealBox {
         keyMaker.makeLabel(guard.secret, KeyMaker.LABEL_IV, nothing, NONCE_SIZE, guard.iv);
     }
 
-    private void needSlot(int slot) {
+    private static void needSlot(int slot) {
         if (slot < 0 || slot >= SLOTS) {
             throw new IllegalArgumentException("no such slot");
         }
@@ -229,13 +229,13 @@ public final class SealBox {
         }
     }
 
-    private void needMadeSize(int n) {
+    private static void needMadeSize(int n) {
         if (n < 1 || n > MADE_MOST) {
             throw new IllegalArgumentException("1 to 1024 bytes can be made");
         }
     }
 
-    private void needGuard(int guard) {
+    private static void needGuard(int guard) {
         if (guard < 0 || guard >= GUARDS) {
             throw new IllegalArgumentException("no such guard");
         }
@@ -247,7 +247,7 @@ public final class SealBox {
         }
     }
 
-    private void needNumber(long number) {
+    private static void needNumber(long number) {
         if (number < 0) {
             throw new IllegalArgumentException("the number is below 0");
         }

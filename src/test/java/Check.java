@@ -11,6 +11,14 @@ final class Check {
         void run();
     }
 
+    interface Maker {
+        SealBox make();
+    }
+
+    interface Use {
+        void on(SealBox box);
+    }
+
     private static int wrong = 0;
 
     private Check() {
@@ -44,27 +52,52 @@ final class Check {
         same("the OUT of " + what, want, hex(readOut(box)));
     }
 
-    static void badArgument(String what, SealBox box, Act act) {
-        refused(what, box, "IllegalArgumentException", act);
+    static void badArgument(String what, Maker maker, Use use) {
+        refused(what, maker, "IllegalArgumentException", use);
     }
 
-    static void badState(String what, SealBox box, Act act) {
-        refused(what, box, "IllegalStateException", act);
+    static void badState(String what, Maker maker, Use use) {
+        refused(what, maker, "IllegalStateException", use);
     }
 
-    static void noElement(String what, SealBox box, Act act) {
-        refused(what, box, "NoSuchElementException", act);
+    static void noElement(String what, Maker maker, Use use) {
+        refused(what, maker, "NoSuchElementException", use);
     }
 
-    /** The call throws just that exception, and nothing that can be looked at changes. */
-    private static void refused(String what, SealBox box, String exception, Act act) {
-        String before = stateOf(box);
+    /** The call throws just that exception, and leaves the box like one that did not have it. */
+    private static void refused(String what, Maker maker, String exception, Use use) {
+        SealBox box = maker.make();
         String answer = answerOf(() -> {
-            act.run();
+            use.on(box);
             return 0;
         });
         same(what, "throws." + exception, answer);
-        same("the state behind " + what, before, stateOf(box));
+        same("the state behind " + what, allOf(maker.make()), allOf(box));
+    }
+
+    /** All that can be told of a box, tape, slots and guards too; the box is used up by it. */
+    private static String allOf(SealBox box) {
+        StringBuilder all = new StringBuilder(stateOf(box));
+        box.digest();
+        all.append(" tape ").append(hex(readOut(box)));
+        for (int slot = 0; slot < 8; slot++) {
+            box.mac(slot);
+            all.append(" slot ").append(hex(readOut(box)));
+        }
+        for (int guard = 0; guard < 4; guard++) {
+            if (box.look(10 + guard) >= 0) {
+                feed(box, sample(30, 1));
+                box.seal(guard, 1, 3);
+                all.append(" guard ").append(hex(readOut(box)));
+                feed(box, sample(30, 1));
+                box.shield(guard, 5, true);
+                all.append(" ").append(hex(readOut(box)));
+                box.turn(guard);
+                box.seal(guard, 1, 0);
+                all.append(" ").append(hex(readOut(box)));
+            }
+        }
+        return all.toString();
     }
 
     static String stateOf(SealBox box) {
@@ -101,6 +134,14 @@ final class Check {
         box.wipe();
         feed(box, bytes);
         box.keep(slot, false);
+    }
+
+    /** A box whose slot 0 has the secret of a guard that is armed. */
+    static SealBox armedBox(int guard, byte[] secret) {
+        SealBox box = new SealBox();
+        keep(box, 0, secret);
+        box.arm(guard, 0);
+        return box;
     }
 
     /** n bytes that differ by place and by seed, high bits among them. */

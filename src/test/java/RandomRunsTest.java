@@ -24,6 +24,7 @@ public final class RandomRunsTest {
     }
 
     private void go() {
+        prepare();
         while (calls < CALLS_MOST) {
             act();
             compare("look", () -> box.look(0), () -> model.look(0));
@@ -31,6 +32,23 @@ public final class RandomRunsTest {
             int what = upTo(15) - 1;
             compare("look " + what, () -> box.look(what), () -> model.look(what));
             readOut();
+        }
+    }
+
+    /** Most calls are refused by a box that is all new: so most runs begin with keys and guards, some with a full tape. */
+    private void prepare() {
+        int armed = upTo(4);
+        for (int i = 0; i < armed; i++) {
+            int guard = i;
+            makeSecret(i);
+            compareVoid("arm " + guard, () -> box.arm(guard, guard), () -> model.arm(guard, guard));
+        }
+        if (upTo(15) == 0) {
+            for (int i = 0; i < 258; i++) {
+                int n = i < 255 ? 8 : 3;
+                long v = random.nextLong();
+                compare("feed " + n + " " + v, () -> box.feed(n, v), () -> model.feed(n, v));
+            }
         }
     }
 
@@ -71,7 +89,7 @@ public final class RandomRunsTest {
     }
 
     private void act() {
-        int kind = upTo(21);
+        int kind = upTo(22);
         int slot = near(0, 7);
         int guard = near(0, upTo(3));
         switch (kind) {
@@ -92,7 +110,10 @@ public final class RandomRunsTest {
             case 16, 17: sealSome(guard, number(), near(0, model.tape.length)); break;
             case 18: openSome(guard, number(), near(0, model.tape.length - 16)); break;
             case 19: sealAndOpen(guard); break;
-            default: shieldSome(guard, near(1, model.tape.length - 20), upTo(1) == 0); break;
+            default:
+                feedSome(upTo(5));
+                shieldSome(guard, near(1, model.tape.length - 20), upTo(1) == 0);
+                break;
         }
     }
 

@@ -67,7 +67,7 @@ final class Reference {
 
     static byte[] tally(byte[] key, byte[] bytes) {
         BigInteger prime = BigInteger.TWO.pow(130).subtract(BigInteger.valueOf(5));
-        BigInteger r = number(Arrays.copyOf(key, 16)).and(new BigInteger("0ffffffc0ffffffc0ffffffc0fffffff", 16));
+        BigInteger r = multiplier(key);
         BigInteger a = BigInteger.ZERO;
         for (int k = 0; k < bytes.length; k += 16) {
             byte[] piece = Arrays.copyOfRange(bytes, k, Math.min(k + 16, bytes.length));
@@ -79,6 +79,11 @@ final class Reference {
             answer[i] = sum.shiftRight(8 * i).byteValue();
         }
         return answer;
+    }
+
+    /** The R of a tally. */
+    static BigInteger multiplier(byte[] key) {
+        return number(Arrays.copyOf(key, 16)).and(new BigInteger("0ffffffc0ffffffc0ffffffc0fffffff", 16));
     }
 
     static byte[] nonce(byte[] iv, long number) {
