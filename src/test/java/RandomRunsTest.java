@@ -35,7 +35,7 @@ public final class RandomRunsTest {
         }
     }
 
-    /** Most calls are refused by a box that is all new: so most runs begin with keys and guards, some with a full tape. */
+    /** A box that is all new refuses most calls: so most runs begin with armed guards, some with a full tape. */
     private void prepare() {
         int armed = upTo(4);
         for (int i = 0; i < armed; i++) {
