@@ -20,14 +20,20 @@ final class Check {
     }
 
     private static int wrong = 0;
+    private static String words = "";
 
     private Check() {
+    }
+
+    /** What comes behind it tests these words of the document: a wrong answer is printed with them. */
+    static void sentence(String sentence) {
+        words = "'" + sentence + "': ";
     }
 
     static void same(String what, Object want, Object got) {
         if (!want.equals(got)) {
             wrong++;
-            System.out.println(what + " answered " + got + ", due is " + want);
+            System.out.println(words + what + " answered " + got + ", due is " + want);
         }
     }
 
@@ -42,6 +48,16 @@ final class Check {
 
     static void due(String what, long want, Call call) {
         same(what, Long.toString(want), answerOf(call));
+    }
+
+    /** A new box on which the call was made, which must not throw. */
+    static SealBox after(String what, Maker maker, Use use) {
+        SealBox box = maker.make();
+        due(what, 0, () -> {
+            use.on(box);
+            return 0;
+        });
+        return box;
     }
 
     static void out(String what, SealBox box, byte[] want) {
