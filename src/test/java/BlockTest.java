@@ -52,7 +52,7 @@ public final class BlockTest {
             int wrong = slot;
             Check.badState("block(" + slot + ", 0)", () -> boxWith(12), b -> b.block(wrong, 0));
         }
-        for (int slot : new int[] {-1, 8, Integer.MIN_VALUE, Integer.MAX_VALUE}) {
+        for (int slot : Check.NO_SLOTS) {
             Check.badArgument("block(" + slot + ", 0)", () -> boxWith(12), b -> b.block(slot, 0));
             Check.badArgument("block(" + slot + ", 0) with 11", () -> boxWith(11), b -> b.block(slot, 0));
         }

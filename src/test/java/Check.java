@@ -19,15 +19,32 @@ final class Check {
         void on(SealBox box);
     }
 
+    /** Numbers beside and far off those of the slots. */
+    static final int[] NO_SLOTS = {-1, 8, Integer.MIN_VALUE, Integer.MAX_VALUE};
+    /** Numbers beside and far off those of the guards. */
+    static final int[] NO_GUARDS = {-1, 4, Integer.MIN_VALUE, Integer.MAX_VALUE};
+
     private static int wrong = 0;
     private static String words = "";
 
     private Check() {
     }
 
-    /** What comes behind it tests these words of the document: a wrong answer is printed with them. */
-    static void sentence(String sentence) {
+    /** Runs a test of these words of the document: a wrong answer in it is printed with them. */
+    static void sentence(String sentence, Act test) {
         words = "'" + sentence + "': ";
+        same("the test", "ended", endOf(test));
+        words = "";
+    }
+
+    /** A call that throws where it is not asked ends the test of its sentence, not those of the others. */
+    private static String endOf(Act test) {
+        try {
+            test.run();
+            return "ended";
+        } catch (RuntimeException e) {
+            return "threw " + e + " at " + Arrays.toString(e.getStackTrace());
+        }
     }
 
     static void same(String what, Object want, Object got) {
@@ -157,6 +174,23 @@ final class Check {
         SealBox box = new SealBox();
         keep(box, 0, secret);
         box.arm(guard, 0);
+        return box;
+    }
+
+    static SealBox boxWithTape(int size) {
+        SealBox box = new SealBox();
+        feed(box, sample(size, 2));
+        return box;
+    }
+
+    /** All slots have the same key; the OUT has 40 bytes, so that a call that is refused could spoil it. */
+    static SealBox boxWithKeys(byte[] key, int tapeSize) {
+        SealBox box = new SealBox();
+        for (int slot = 0; slot < 8; slot++) {
+            keep(box, slot, key);
+        }
+        box.stretch(0, 40);
+        feed(box, sample(tapeSize, 2));
         return box;
     }
 

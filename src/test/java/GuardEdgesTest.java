@@ -9,20 +9,27 @@ public final class GuardEdgesTest {
     private static final byte[] HIDE = Reference.label(SECRET, 2, NONE, 32);
 
     public static void main(String[] args) {
-        notArmedAtFirst();
-        onlyItselfIsArmed();
-        withoutContext();
-        otherPhase();
-        hideStays();
-        nonceOfTheNumber();
-        heads();
-        talliedZeros();
-        tallyAtTheEnd();
-        notOpenedIsEmpty();
-        numberSizes();
-        firstByteBits();
-        unshieldedFirstByte();
-        sampleAtTheEnd();
+        Check.sentence("A GUARD, 0 .. 3, is at first not ARMED.", GuardEdgesTest::notArmedAtFirst);
+        Check.sentence("To arm it with a SECRET of 32 bytes", GuardEdgesTest::onlyItselfIsArmed);
+        Check.sentence("its KEY is LABEL 0 of that to 32 bytes (without context, as all here)",
+                GuardEdgesTest::withoutContext);
+        Check.sentence("the phase is the other one of 0 and 1.", GuardEdgesTest::otherPhase);
+        Check.sentence("key and IV are made anew of that; HIDE stays;", GuardEdgesTest::hideStays);
+        Check.sentence("the nonce is the IV, its last 8 bytes ^ those of the number, highest first.",
+                GuardEdgesTest::nonceOfTheNumber);
+        Check.sentence("SEALING bytes with a HEAD (its first ones)", GuardEdgesTest::heads);
+        Check.sentence("the head, 0s up to a multiple of 16, what is behind the head (as it is now), 0s likewise",
+                GuardEdgesTest::talliedZeros);
+        Check.sentence("OPENING: the other way round, if the last 16 bytes are that tally.",
+                GuardEdgesTest::tallyAtTheEnd);
+        Check.sentence("-1 when its end is not the tally (the OUT is empty then).", GuardEdgesTest::notOpenedIsEmpty);
+        Check.sentence("The number has 1 more bytes than the lowest two bits of the first byte say;",
+                GuardEdgesTest::numberSizes);
+        Check.sentence("the lowest four bits of mask 0 if its highest bit is 1, the lowest five otherwise.",
+                GuardEdgesTest::firstByteBits);
+        Check.sentence("UNSHIELDING: .. the first byte is done first, and says then how many bytes the number has.",
+                GuardEdgesTest::unshieldedFirstByte);
+        Check.sentence("the SAMPLE is the 16 bytes from place + 4 on;", GuardEdgesTest::sampleAtTheEnd);
         Check.end();
     }
 
@@ -43,7 +50,6 @@ public final class GuardEdgesTest {
     }
 
     private static void notArmedAtFirst() {
-        Check.sentence("A GUARD, 0 .. 3, is at first not ARMED.");
         for (int guard = 0; guard < 4; guard++) {
             dueRefusing("guard " + guard + " at first", () -> boxWithTape(30), guard);
         }
@@ -73,7 +79,6 @@ public final class GuardEdgesTest {
 
     /** What is on the tape is no context: guards armed and turned with a tape are those without one. */
     private static void withoutContext() {
-        Check.sentence("its KEY is LABEL 0 of that to 32 bytes (without context, as all here)");
         SealBox box = boxWithTape(200);
         box.arm(2, 0);
         Check.due("the tape stays", 200, () -> box.look(0));
@@ -81,6 +86,10 @@ public final class GuardEdgesTest {
         Check.due("the tape stays", 200, () -> box.look(0));
         box.wipe();
         dueTurned(box, 2, 1);
+        byte[] packet = Check.sample(30, 4);
+        Check.feed(box, packet);
+        box.shield(2, 3, true);
+        Check.out("a shield", box, Reference.shield(HIDE, packet, 3));
     }
 
     /** A guard that was turned so many times seals as it is due. */
@@ -98,7 +107,6 @@ public final class GuardEdgesTest {
 
     /** Some 500 turns: an object is used for at most 512 calls. */
     private static void otherPhase() {
-        Check.sentence("the phase is the other one of 0 and 1.");
         SealBox box = boxWithTape(0);
         box.arm(1, 0);
         Check.due("the phase at first", 0, () -> box.look(11));
@@ -115,7 +123,6 @@ public final class GuardEdgesTest {
     }
 
     private static void hideStays() {
-        Check.sentence("key and IV are made anew of that; HIDE stays;");
         byte[] packet = Check.sample(30, 4);
         SealBox box = boxWithTape(0);
         box.arm(1, 0);
@@ -147,7 +154,6 @@ public final class GuardEdgesTest {
     }
 
     private static void nonceOfTheNumber() {
-        Check.sentence("the nonce is the IV, its last 8 bytes ^ those of the number, highest first.");
         for (int bit = 0; bit < 63; bit++) {
             dueSeal(1L << bit, Check.sample(5, bit), 1);
         }
@@ -157,7 +163,6 @@ public final class GuardEdgesTest {
 
     /** Key blocks have 64 bytes, pieces of a tally 16. */
     private static void heads() {
-        Check.sentence("SEALING bytes with a HEAD (its first ones)");
         for (int size : new int[] {0, 1, 16, 64, 65, 130}) {
             dueSeal(4, Check.sample(size, 6), 0);
             dueSeal(4, Check.sample(size, 6), size);
@@ -170,7 +175,6 @@ public final class GuardEdgesTest {
     }
 
     private static void talliedZeros() {
-        Check.sentence("the head, 0s up to a multiple of 16, what is behind the head (as it is now), 0s likewise");
         for (int head : new int[] {0, 1, 15, 16, 17, 32}) {
             for (int behind : new int[] {0, 1, 15, 16, 17, 63, 64, 65, 127, 128, 129}) {
                 dueSeal(8, Check.sample(head + behind, head), head);
@@ -179,7 +183,6 @@ public final class GuardEdgesTest {
     }
 
     private static void tallyAtTheEnd() {
-        Check.sentence("OPENING: the other way round, if the last 16 bytes are that tally.");
         byte[] packet = Check.sample(20, 7);
         byte[] sealed = Reference.seal(KEY, IV, 3, packet, 6);
         for (int k = 0; k < sealed.length; k++) {
@@ -198,7 +201,6 @@ public final class GuardEdgesTest {
     }
 
     private static void notOpenedIsEmpty() {
-        Check.sentence("-1 when its end is not the tally (the OUT is empty then).");
         dueNotOpened("16 bytes 0", new byte[16], 0, 0);
         dueNotOpened("16 bytes 255", Check.repeat(255, 16), 0, 0);
         dueNotOpened("16 bytes behind a head of 1", new byte[17], 0, 1);
@@ -239,8 +241,6 @@ public final class GuardEdgesTest {
     }
 
     private static void numberSizes() {
-        Check.sentence("The number has 1 more bytes than the lowest two bits of the first byte say;"
-                + " each of them becomes ^ mask 1, 2, ..;");
         for (int first = 0; first < 8; first++) {
             for (int seed = 0; seed < 8; seed++) {
                 byte[] packet = packet(30, first, seed);
@@ -258,8 +258,6 @@ public final class GuardEdgesTest {
     }
 
     private static void firstByteBits() {
-        Check.sentence("the first byte ^ the lowest four bits of mask 0 if its highest bit is 1,"
-                + " the lowest five otherwise.");
         for (int first : new int[] {0, 63, 64, 127, 128, 191, 192, 255}) {
             for (int seed = 0; seed < 32; seed++) {
                 byte[] packet = packet(30, first, seed);
@@ -274,8 +272,6 @@ public final class GuardEdgesTest {
 
     /** Among these are packets whose first byte says another size before it is done than behind. */
     private static void unshieldedFirstByte() {
-        Check.sentence("UNSHIELDING: the same, but the first byte is done first,"
-                + " and says then how many bytes the number has.");
         int changed = 0;
         for (int first = 0; first < 256; first += 5) {
             byte[] packet = packet(30, first, first);
@@ -289,7 +285,6 @@ public final class GuardEdgesTest {
     }
 
     private static void sampleAtTheEnd() {
-        Check.sentence("the SAMPLE is the 16 bytes from place + 4 on;");
         for (int place : new int[] {1, 2, 4, 5, 30}) {
             dueShield(packet(place + 20, 3, 9), place);
             dueShield(packet(place + 21, 3, 9), place);

@@ -127,10 +127,10 @@ public final class GuardTest {
 
     private static void refusals() {
         Check.Maker maker = GuardTest::boxForRefusals;
-        for (int wrong : new int[] {-1, 8, Integer.MIN_VALUE, Integer.MAX_VALUE}) {
+        for (int wrong : Check.NO_SLOTS) {
             Check.badArgument("arm(0, " + wrong + ")", maker, b -> b.arm(0, wrong));
         }
-        for (int wrong : new int[] {-1, 4, Integer.MIN_VALUE, Integer.MAX_VALUE}) {
+        for (int wrong : Check.NO_GUARDS) {
             Check.badArgument("arm(" + wrong + ", 2)", maker, b -> b.arm(wrong, 2));
             Check.badArgument("arm(" + wrong + ", 0), the slot being too short", maker, b -> b.arm(wrong, 0));
             Check.badArgument("turn(" + wrong + ")", maker, b -> b.turn(wrong));

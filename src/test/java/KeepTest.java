@@ -68,7 +68,7 @@ public final class KeepTest {
     }
 
     private static void refusals() {
-        for (int slot : new int[] {-1, 8, Integer.MIN_VALUE, Integer.MAX_VALUE}) {
+        for (int slot : Check.NO_SLOTS) {
             for (boolean out : new boolean[] {false, true}) {
                 String call = "keep(" + slot + ", " + out + ")";
                 Check.badArgument(call, () -> boxWith(3, 3), b -> b.keep(slot, out));

@@ -62,7 +62,7 @@ public final class LabelTest {
         Check.badState("label(6, 0, 32) with 256", () -> usualBox(256), b -> b.label(6, 0, 32));
         Check.badState("label(6, 10, 1024) with 2048", () -> usualBox(2048), b -> b.label(6, 10, 1024));
         for (int size : new int[] {255, 256}) {
-            for (int slot : new int[] {-1, 8, Integer.MIN_VALUE, Integer.MAX_VALUE}) {
+            for (int slot : Check.NO_SLOTS) {
                 Check.badArgument("label(" + slot + ", 0, 32)", () -> usualBox(size), b -> b.label(slot, 0, 32));
             }
             for (int w : new int[] {-1, 11, Integer.MIN_VALUE, Integer.MAX_VALUE}) {

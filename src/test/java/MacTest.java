@@ -55,7 +55,7 @@ public final class MacTest {
     }
 
     private static void refusals() {
-        for (int slot : new int[] {-1, 8, Integer.MIN_VALUE, Integer.MAX_VALUE}) {
+        for (int slot : Check.NO_SLOTS) {
             Check.badArgument("mac(" + slot + ")", MacTest::boxWithTape, b -> b.mac(slot));
         }
     }

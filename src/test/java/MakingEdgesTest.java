@@ -9,22 +9,27 @@ public final class MakingEdgesTest {
     private static final String PLAIN_KEY = "01" + "00".repeat(31);
 
     public static void main(String[] args) {
-        sumsOfWordsWrap();
-        wordsTurnAndShift();
-        digestPadding();
-        digestLength();
-        macLongKey();
-        macShortKey();
-        stretchFirstPart();
-        stretchIsCutOff();
-        labelInfo();
-        labelContext();
-        blockWords();
-        tallyLastPiece();
-        tallyOfNothing();
-        tallyModulus();
-        tallySum();
-        tallyKeyBits();
+        Check.sentence("sums of words wrap", MakingEdgesTest::sumsOfWordsWrap);
+        Check.sentence("LEFT x n, RIGHT x n is a word turned round by n bits, x >>> n shifted with 0s",
+                MakingEdgesTest::wordsTurnAndShift);
+        Check.sentence("as many 0s as are needed for 8 less than a multiple of 64", MakingEdgesTest::digestPadding);
+        Check.sentence("8 times their number as 8 bytes, highest first", MakingEdgesTest::digestLength);
+        Check.sentence("a key of more than 64 bytes is first replaced by its digest", MakingEdgesTest::macLongKey);
+        Check.sentence("0s behind it make it 64", MakingEdgesTest::macShortKey);
+        Check.sentence("T(i) is the MAC under the key of T(i-1) (nothing for i 1), the info, and the byte i.",
+                MakingEdgesTest::stretchFirstPart);
+        Check.sentence("one behind the other, cut off behind n", MakingEdgesTest::stretchIsCutOff);
+        Check.sentence("n as two bytes, highest first; one byte, how many the text of w has; that text;",
+                MakingEdgesTest::labelInfo);
+        Check.sentence("a CONTEXT of at most 255 bytes", MakingEdgesTest::labelContext);
+        Check.sentence("the key's eight, the counter, the nonce's three (lowest bytes first)",
+                MakingEdgesTest::blockWords);
+        Check.sentence("for each 16 bytes in turn (at last maybe fewer)", MakingEdgesTest::tallyLastPiece);
+        Check.sentence("A is 0;", MakingEdgesTest::tallyOfNothing);
+        Check.sentence("modulo 2^130 - 5", MakingEdgesTest::tallyModulus);
+        Check.sentence("The tally is A + S modulo 2^128, lowest first.", MakingEdgesTest::tallySum);
+        Check.sentence("of which the bytes 3, 7, 11, 15 keep their lowest 4 bits, 4, 8, 12 their highest 6",
+                MakingEdgesTest::tallyKeyBits);
         Check.end();
     }
 
@@ -87,7 +92,6 @@ public final class MakingEdgesTest {
     }
 
     private static void sumsOfWordsWrap() {
-        Check.sentence("sums of words wrap");
         byte[] nonce = Check.repeat(255, 12);
         byte[] block = blockOf(Check.repeat(255, 32), nonce, -1);
         dueSame("block of nothing but 255", Reference.keyBlock(Check.repeat(255, 32), nonce, -1), block);
@@ -97,7 +101,6 @@ public final class MakingEdgesTest {
     }
 
     private static void wordsTurnAndShift() {
-        Check.sentence("LEFT x n, RIGHT x n is a word turned round by n bits, x >>> n shifted with 0s");
         for (int bit = 0; bit < 512; bit++) {
             byte[] bytes = new byte[64];
             bytes[bit / 8] = (byte) (1 << bit % 8);
@@ -112,7 +115,6 @@ public final class MakingEdgesTest {
 
     /** From 56 bytes of a block on the 8 bytes of the length need another one. */
     private static void digestPadding() {
-        Check.sentence("as many 0s as are needed for 8 less than a multiple of 64");
         for (int blocks : new int[] {0, 1, 2, 30, 31}) {
             for (int more : new int[] {0, 1, 54, 55, 56, 57, 62, 63, 64}) {
                 dueDigest(Check.sample(64 * blocks + more, 3));
@@ -121,14 +123,12 @@ public final class MakingEdgesTest {
     }
 
     private static void digestLength() {
-        Check.sentence("8 times their number as 8 bytes, highest first");
         for (int size : new int[] {0, 31, 32, 33, 255, 256, 1023, 1024, 2047, 2048}) {
             dueDigest(new byte[size]);
         }
     }
 
     private static void macLongKey() {
-        Check.sentence("a key of more than 64 bytes is first replaced by its digest");
         byte[] text = Check.sample(20, 1);
         for (int size : new int[] {65, 66, 127, 128}) {
             byte[] key = Check.sample(size, 2);
@@ -146,7 +146,6 @@ public final class MakingEdgesTest {
     }
 
     private static void macShortKey() {
-        Check.sentence("0s behind it make it 64");
         byte[] text = Check.sample(20, 1);
         for (int size : new int[] {0, 1, 32, 63}) {
             byte[] key = Check.sample(size, 2);
@@ -162,7 +161,6 @@ public final class MakingEdgesTest {
     }
 
     private static void stretchFirstPart() {
-        Check.sentence("T(i) is the MAC under the key of T(i-1) (nothing for i 1), the info, and the byte i.");
         byte[] key = Check.sample(32, 4);
         byte[] info = Check.sample(9, 4);
         byte[] first = macOf(key, Reference.join(info, new byte[] {1}));
@@ -175,7 +173,6 @@ public final class MakingEdgesTest {
     }
 
     private static void stretchIsCutOff() {
-        Check.sentence("one behind the other, cut off behind n");
         byte[] key = Check.sample(32, 4);
         byte[] all = stretchOf(key, NONE, 1024);
         dueSame("stretch to 1024", Reference.stretch(key, NONE, 1024), all);
@@ -186,8 +183,6 @@ public final class MakingEdgesTest {
 
     /** A label is the stretch with an info, which is written out by hand here. */
     private static void labelInfo() {
-        Check.sentence("the info: n as two bytes, highest first; one byte, how many the text of w has; that text;"
-                + " one byte, how many the context has; that.");
         byte[] key = Check.sample(32, 4);
         dueSame("label 1 to 1", stretchOf(key, Check.bytes("0001" + "05" + "7631206976" + "00"), 1),
                 labelOf(key, 1, NONE, 1));
@@ -211,7 +206,6 @@ public final class MakingEdgesTest {
     }
 
     private static void labelContext() {
-        Check.sentence("a CONTEXT of at most 255 bytes");
         byte[] key = Check.sample(32, 4);
         for (int size : new int[] {0, 1, 127, 128, 254, 255}) {
             byte[] context = Check.sample(size, 5);
@@ -225,7 +219,6 @@ public final class MakingEdgesTest {
     }
 
     private static void blockWords() {
-        Check.sentence("the key's eight, the counter, the nonce's three (lowest bytes first)");
         byte[] key = Check.sample(32, 6);
         byte[] nonce = Check.sample(12, 6);
         for (int counter : new int[] {0, 1, 255, 256, 65535, 65536, Integer.MAX_VALUE, Integer.MIN_VALUE, -2, -1}) {
@@ -235,7 +228,6 @@ public final class MakingEdgesTest {
     }
 
     private static void tallyLastPiece() {
-        Check.sentence("for each 16 bytes in turn (at last maybe fewer)");
         dueTally(PLAIN_KEY, "05", "0501" + "00".repeat(14));
         dueTally(PLAIN_KEY, "00", "0001" + "00".repeat(14));
         dueTally(PLAIN_KEY, "07".repeat(15), "07".repeat(15) + "01");
@@ -252,15 +244,20 @@ public final class MakingEdgesTest {
     }
 
     private static void tallyOfNothing() {
-        Check.sentence("A is 0;");
         dueTally(PLAIN_KEY, "", ZEROS);
         dueTally("09".repeat(16) + "ab".repeat(16), "", "ab".repeat(16));
         dueTally(ONES + ONES, "", ONES);
+        SealBox box = new SealBox();
+        Check.keep(box, 3, Check.bytes(PLAIN_KEY));
+        for (int i = 0; i < 3; i++) {
+            box.feed(1, 5);
+            box.tally(3);
+            Check.out("tally " + i + " of the same byte", box, "0501" + "00".repeat(14));
+        }
     }
 
     /** With an R of 2 a piece p of 16 bytes makes 2 * (2^128 + p), which is 2^130 - 5 + more when p is high. */
     private static void tallyModulus() {
-        Check.sentence("modulo 2^130 - 5");
         String twoKey = "02" + "00".repeat(31);
         dueTally(twoKey, ONES, "03" + "00".repeat(15));
         dueTally(twoKey, "fe" + "ff".repeat(15), "01" + "00".repeat(15));
@@ -274,7 +271,6 @@ public final class MakingEdgesTest {
     }
 
     private static void tallySum() {
-        Check.sentence("The tally is A + S modulo 2^128, lowest first.");
         String one = "01" + "00".repeat(15);
         dueTally(one + ONES, ZEROS, ONES);
         dueTally(one + ONES, one, ZEROS);
@@ -285,7 +281,6 @@ public final class MakingEdgesTest {
     }
 
     private static void tallyKeyBits() {
-        Check.sentence("of which the bytes 3, 7, 11, 15 keep their lowest 4 bits, 4, 8, 12 their highest 6");
         String kept = "ffffff0f" + "fcffff0f" + "fcffff0f" + "fcffff0f";
         for (int size : new int[] {1, 16, 40}) {
             byte[] bytes = Check.sample(size, 8);

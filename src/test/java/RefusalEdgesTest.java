@@ -4,15 +4,10 @@ import java.util.Map;
 /** The sentences of 'Terms' on calls that throw. */
 public final class RefusalEdgesTest {
     public static void main(String[] args) {
-        refusedCallsChangeNothing();
-        firstListedIsThrown();
+        Check.sentence("A call that throws changes nothing.", RefusalEdgesTest::refusedCallsChangeNothing);
+        Check.sentence("Of several exceptions that hold the one listed first is thrown.",
+                RefusalEdgesTest::firstListedIsThrown);
         Check.end();
-    }
-
-    private static SealBox boxWithTape(int size) {
-        SealBox box = new SealBox();
-        Check.feed(box, Check.sample(size, 3));
-        return box;
     }
 
     /** 300 bytes on the tape, 200 in the OUT; guard 0 is armed, guard 1 turned too, guard 2 neither. */
@@ -87,12 +82,11 @@ public final class RefusalEdgesTest {
     }
 
     private static void refusedCallsChangeNothing() {
-        Check.sentence("A call that throws changes nothing.");
         Check.Maker maker = RefusalEdgesTest::richBox;
         callsWithBadArguments().forEach((call, use) -> Check.badArgument(call, maker, use));
         callsInBadStates().forEach((call, use) -> Check.badState(call, maker, use));
         callsForNoElement().forEach((call, use) -> Check.noElement(call, maker, use));
-        Check.badState("feed(8, 1) of 2041", () -> boxWithTape(2041), b -> b.feed(8, 1));
+        Check.badState("feed(8, 1) of 2041", () -> Check.boxWithTape(2041), b -> b.feed(8, 1));
         Check.noElement("all of them, one behind the other", maker, RefusalEdgesTest::refuseAll);
     }
 
@@ -120,9 +114,8 @@ public final class RefusalEdgesTest {
 
     /** In each of these calls an IllegalStateException would hold too. */
     private static void firstListedIsThrown() {
-        Check.sentence("Of several exceptions that hold the one listed first is thrown.");
-        Check.badArgument("feed(9, 0) of 2048", () -> boxWithTape(2048), b -> b.feed(9, 0));
-        Check.badArgument("feed(0, 0) of 2048", () -> boxWithTape(2048), b -> b.feed(0, 0));
+        Check.badArgument("feed(9, 0) of 2048", () -> Check.boxWithTape(2048), b -> b.feed(9, 0));
+        Check.badArgument("feed(0, 0) of 2048", () -> Check.boxWithTape(2048), b -> b.feed(0, 0));
         Check.badArgument("keep(8, false) of 129", () -> armedBoxWith(129), b -> b.keep(8, false));
         Check.badArgument("keep(8, true) of 129", () -> armedBoxWith(0), b -> b.keep(8, true));
         Check.Maker longTape = () -> armedBoxWith(256);

@@ -99,7 +99,7 @@ public final class SealTest {
     /** Guard 2 is armed and guard 1 is not: what is wrong with a call's arguments comes first for both. */
     private static void refusals() {
         Check.Maker maker = SealTest::boxWithTen;
-        for (int guard : new int[] {-1, 4, Integer.MIN_VALUE, Integer.MAX_VALUE}) {
+        for (int guard : Check.NO_GUARDS) {
             Check.badArgument("seal(" + guard + ", 0, 0)", maker, b -> b.seal(guard, 0, 0));
         }
         for (int guard = 1; guard <= 2; guard++) {

@@ -117,7 +117,7 @@ public final class ShieldTest {
     private static void refusals() {
         Check.Maker maker = () -> boxWith(25);
         for (boolean does : new boolean[] {false, true}) {
-            for (int guard : new int[] {-1, 4, Integer.MIN_VALUE, Integer.MAX_VALUE}) {
+            for (int guard : Check.NO_GUARDS) {
                 Check.badArgument("shield(" + guard + ", 5, " + does + ")", maker, b -> b.shield(guard, 5, does));
             }
             for (int guard = 0; guard <= 1; guard++) {

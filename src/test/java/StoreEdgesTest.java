@@ -11,22 +11,26 @@ public final class StoreEdgesTest {
     private static final byte[] TAPE = Check.sample(40, 2);
 
     public static void main(String[] args) {
-        bytesAre0To255();
-        tapeNoneAtFirst();
-        tapeAtMost2048();
-        readingUsesItUp();
-        otherCallsLeaveTheTape();
-        outNoneAtFirst();
-        outAtMost2064();
-        outIsMadeAnew();
-        otherCallsLeaveTheOut();
-        slotsNoneAtFirst();
-        slotsHold0To128();
+        Check.sentence("BYTES are 0 .. 255", StoreEdgesTest::bytesAre0To255);
+        Check.sentence("The TAPE has .. none at first.", StoreEdgesTest::tapeNoneAtFirst);
+        Check.sentence("The TAPE has at most 2048 bytes,", StoreEdgesTest::tapeAtMost2048);
+        Check.sentence("wipe: The tape is empty: how many it had.", StoreEdgesTest::wipeTellsHowMany);
+        Check.sentence("A call that is said to read it uses it up: it is empty then.",
+                StoreEdgesTest::readingUsesItUp);
+        Check.sentence("A call that is said to read it uses it up (and no other)",
+                StoreEdgesTest::otherCallsLeaveTheTape);
+        Check.sentence("The OUT has .. none at first;", StoreEdgesTest::outNoneAtFirst);
+        Check.sentence("The OUT has at most 2064 bytes,", StoreEdgesTest::outAtMost2064);
+        Check.sentence("a call that makes it makes it anew.", StoreEdgesTest::outIsMadeAnew);
+        Check.sentence("a call that makes it makes it anew (and no other)", StoreEdgesTest::otherCallsLeaveTheOut);
+        Check.sentence("SLOTS .. none at first.", StoreEdgesTest::slotsNoneAtFirst);
+        Check.sentence("SLOTS 0 .. 7 hold 0 to 128 bytes each,", StoreEdgesTest::slotsHold0To128);
+        Check.sentence("An object is used for at most 512 calls after it has been made",
+                StoreEdgesTest::call512);
         Check.end();
     }
 
     private static void bytesAre0To255() {
-        Check.sentence("BYTES are 0 .. 255");
         SealBox box = Check.armedBox(0, SECRET);
         for (int b = 0; b < 256; b++) {
             box.feed(1, b - 256L * (b % 3));
@@ -48,7 +52,6 @@ public final class StoreEdgesTest {
     }
 
     private static void tapeNoneAtFirst() {
-        Check.sentence("The TAPE has at most 2048 bytes, none at first.");
         Check.due("look(0) of a new box", 0, () -> new SealBox().look(0));
         Check.due("wipe() of a new box", 0, () -> new SealBox().wipe());
         Check.due("keep(0, false) of a new box", 0, () -> new SealBox().keep(0, false));
@@ -57,23 +60,28 @@ public final class StoreEdgesTest {
         Check.out("a new box's digest", box, Reference.digest(NONE));
     }
 
-    private static SealBox boxWithTape(int size) {
-        SealBox box = new SealBox();
-        Check.feed(box, Check.sample(size, 3));
-        return box;
-    }
-
     private static void tapeAtMost2048() {
         for (int n = 1; n <= 8; n++) {
             int many = n;
-            SealBox box = boxWithTape(2048 - n);
+            SealBox box = Check.boxWithTape(2048 - n);
             Check.due("feed(" + n + ", 0) to 2048", 2048, () -> box.feed(many, 0));
-            Check.badState("feed(" + n + ", 0) to 2049", () -> boxWithTape(2049 - many), b -> b.feed(many, 0));
-            Check.badState("feed(" + n + ", 0) of 2048", () -> boxWithTape(2048), b -> b.feed(many, 0));
+            Check.badState("feed(" + n + ", 0) to 2049", () -> Check.boxWithTape(2049 - many), b -> b.feed(many, 0));
+            Check.badState("feed(" + n + ", 0) of 2048", () -> Check.boxWithTape(2048), b -> b.feed(many, 0));
         }
-        SealBox full = boxWithTape(2048);
+        SealBox full = Check.boxWithTape(2048);
         full.digest();
-        Check.out("the digest of a full tape", full, Reference.digest(Check.sample(2048, 3)));
+        Check.out("the digest of a full tape", full, Reference.digest(Check.sample(2048, 2)));
+    }
+
+    private static void wipeTellsHowMany() {
+        for (int size : new int[] {0, 1, 8, 2047, 2048}) {
+            SealBox box = Check.boxWithTape(size);
+            Check.due("wipe() of " + size, size, box::wipe);
+            Check.due("look(0) behind it", 0, () -> box.look(0));
+            Check.due("wipe() behind it", 0, box::wipe);
+            box.digest();
+            Check.out("a digest behind it", box, Reference.digest(NONE));
+        }
     }
 
     /** Slot 0 has the secret of guard 0; slot 1 a byte; the OUT 1024 bytes, more than most calls make. */
@@ -133,7 +141,6 @@ public final class StoreEdgesTest {
     }
 
     private static void readingUsesItUp() {
-        Check.sentence("A call that is said to read it uses it up: it is empty then.");
         readingCalls().forEach((call, use) -> {
             Check.Maker maker = () -> boxWith(tapeFor(call));
             Check.due("look(0) behind " + call, 0, () -> Check.after(call, maker, use).look(0));
@@ -169,7 +176,6 @@ public final class StoreEdgesTest {
     }
 
     private static void outNoneAtFirst() {
-        Check.sentence("The OUT has at most 2064 bytes, none at first;");
         Check.due("look(1) of a new box", 0, () -> new SealBox().look(1));
         Check.due("keep(0, true) of a new box", 0, () -> new SealBox().keep(0, true));
         Check.noElement("out(0) of a new box", SealBox::new, b -> b.out(0));
@@ -208,7 +214,6 @@ public final class StoreEdgesTest {
     }
 
     private static void outIsMadeAnew() {
-        Check.sentence("a call that makes it makes it anew.");
         makingCalls().forEach((call, use) -> {
             SealBox box = Check.after(call, () -> boxWith(tapeFor(call)), use);
             byte[] due = dueOut(call);
@@ -241,7 +246,6 @@ public final class StoreEdgesTest {
     }
 
     private static void slotsNoneAtFirst() {
-        Check.sentence("SLOTS 0 .. 7 hold 0 to 128 bytes each, none at first.");
         SealBox box = new SealBox();
         for (int slot = 0; slot < 8; slot++) {
             dueSlot(box, slot, NONE);
@@ -264,11 +268,21 @@ public final class StoreEdgesTest {
         }
         for (int slot = 0; slot < 8; slot++) {
             int to = slot;
-            Check.badState("keep(" + slot + ", false) of 129", () -> boxWithTape(129), b -> b.keep(to, false));
+            Check.badState("keep(" + slot + ", false) of 129", () -> Check.boxWithTape(129), b -> b.keep(to, false));
         }
         for (int slot : new int[] {-1, 8}) {
-            Check.badArgument("keep(" + slot + ", false)", () -> boxWithTape(128), b -> b.keep(slot, false));
-            Check.badArgument("keep(" + slot + ", true)", () -> boxWithTape(128), b -> b.keep(slot, true));
+            Check.badArgument("keep(" + slot + ", false)", () -> Check.boxWithTape(128), b -> b.keep(slot, false));
+            Check.badArgument("keep(" + slot + ", true)", () -> Check.boxWithTape(128), b -> b.keep(slot, true));
         }
+    }
+
+    /** 256 + 1 + 253 calls, then a digest, then the last one. */
+    private static void call512() {
+        SealBox box = Check.boxWithTape(2048);
+        box.wipe();
+        byte[] tape = Check.sample(2024, 5);
+        Check.feed(box, tape);
+        box.digest();
+        Check.due("outs(8) as call 512", lowestFirst(Reference.digest(tape), 8), () -> box.outs(8));
     }
 }

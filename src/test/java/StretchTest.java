@@ -52,7 +52,7 @@ public final class StretchTest {
     }
 
     private static void refusals() {
-        for (int slot : new int[] {-1, 8, Integer.MIN_VALUE, Integer.MAX_VALUE}) {
+        for (int slot : Check.NO_SLOTS) {
             Check.badArgument("stretch(" + slot + ", 5)", StretchTest::usualBox, b -> b.stretch(slot, 5));
         }
         for (int n : new int[] {0, -1, 1025, Integer.MIN_VALUE, Integer.MAX_VALUE}) {

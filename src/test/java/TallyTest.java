@@ -116,7 +116,7 @@ public final class TallyTest {
             int wrong = slot;
             Check.badState("tally(" + slot + ")", TallyTest::boxWithWrongKeys, b -> b.tally(wrong));
         }
-        for (int slot : new int[] {-1, 8, Integer.MIN_VALUE, Integer.MAX_VALUE}) {
+        for (int slot : Check.NO_SLOTS) {
             Check.badArgument("tally(" + slot + ")", TallyTest::boxWithWrongKeys, b -> b.tally(slot));
         }
     }
