@@ -3,6 +3,7 @@ public final class MacTest {
     public static void main(String[] args) {
         knownAnswers();
         keySizes();
+        keyBehindKey();
         textSizes();
         refusals();
         Check.end();
@@ -34,6 +35,22 @@ public final class MacTest {
         for (int n : new int[] {0, 1, 31, 32, 33, 63, 64, 65, 66, 127, 128}) {
             byte[] text = Check.sample(70, 2);
             dueMac(Check.sample(n, 5), text, Check.hex(Reference.mac(Check.sample(n, 5), text)));
+        }
+    }
+
+    /** Nothing of a key gets into the mac under the next one. */
+    private static void keyBehindKey() {
+        int[] sizes = {0, 1, 31, 32, 33, 63, 64, 65, 127, 128};
+        for (int before : sizes) {
+            for (int size : sizes) {
+                SealBox box = new SealBox();
+                Check.keep(box, 0, Check.sample(before, 3));
+                Check.keep(box, 1, Check.sample(size, 5));
+                box.mac(0);
+                box.mac(1);
+                Check.out("mac under " + size + " behind one under " + before, box,
+                        Reference.mac(Check.sample(size, 5), new byte[0]));
+            }
         }
     }
 

@@ -158,6 +158,10 @@ public final class MakingEdgesTest {
         box.mac(0);
         box.mac(1);
         Check.out("mac under 3 behind one under 64", box, Reference.mac(Check.sample(3, 5), NONE));
+        Check.keep(box, 2, Check.sample(65, 6));
+        box.mac(0);
+        box.mac(2);
+        Check.out("mac under 65 behind one under 64", box, Reference.mac(Check.sample(65, 6), NONE));
     }
 
     private static void stretchFirstPart() {
@@ -268,6 +272,12 @@ public final class MakingEdgesTest {
         dueTally(PLAIN_KEY, ZEROS + ZEROS + "fc" + "ff".repeat(15), "01" + "00".repeat(15));
         dueTally(PLAIN_KEY, ZEROS + ZEROS + ONES, "04" + "00".repeat(15));
         dueTally(PLAIN_KEY, ZEROS + ZEROS + ZEROS + ZEROS, "05" + "00".repeat(15));
+        // all bits but one: below the modulus from bit 3 on, wherever the missing one is
+        for (int bit = 3; bit < 128; bit++) {
+            byte[] piece = Check.repeat(255, 16);
+            piece[bit / 8] ^= (byte) (1 << bit % 8);
+            dueTally(PLAIN_KEY, ZEROS + ZEROS + Check.hex(piece), Check.hex(piece));
+        }
     }
 
     private static void tallySum() {

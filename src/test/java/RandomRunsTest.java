@@ -89,7 +89,7 @@ public final class RandomRunsTest {
     }
 
     private void act() {
-        int kind = upTo(22);
+        int kind = upTo(23);
         int slot = near(0, 7);
         int guard = near(0, upTo(3));
         switch (kind) {
@@ -110,6 +110,7 @@ public final class RandomRunsTest {
             case 16, 17: sealSome(guard, number(), near(0, model.tape.length)); break;
             case 18: openSome(guard, number(), near(0, model.tape.length - 16)); break;
             case 19: sealAndOpen(guard); break;
+            case 20: macBehindMac(slot, upTo(7)); break;
             default:
                 feedSome(upTo(5));
                 shieldSome(guard, near(1, model.tape.length - 20), upTo(1) == 0);
@@ -147,6 +148,17 @@ public final class RandomRunsTest {
         feedSome(upTo(3));
         compareVoid("digest", box::digest, model::digest);
         keepSome(slot, true);
+    }
+
+    /** Two slots get keys of any size, and each has its mac. */
+    private void macBehindMac(int slot, int next) {
+        stretchSome(next, near(1, 128));
+        keepSome(next, true);
+        stretchSome(next, near(1, 128));
+        keepSome(slot, true);
+        compareVoid("mac " + next, () -> box.mac(next), () -> model.mac(next));
+        compareVoid("mac " + slot, () -> box.mac(slot), () -> model.mac(slot));
+        readOut();
     }
 
     private void stretchSome(int slot, int n) {
